@@ -23,6 +23,7 @@ public final class TramTolls {
     private static final int TOLL = 0;
     private static final int TRACKS_PER_SQUARE = 1;
     private static final int COINS_PER_PIECE = 2;
+    private static final int[] FIRST_SETTINGS = {2, 2, 1};
 
     private static final int LEAVES_TOWN = 1;
     private static final int DIE_FORBIDS = 2;
@@ -44,11 +45,11 @@ public final class TramTolls {
         final int[] stopSquares = new int[STOPS];
         final int[] stopPlayers = new int[STOPS];
         final int[] coins = new int[PLAYERS];
-        final int[] heads = new int[PLAYERS];
+        final int[] heads = DEPOTS.clone();
         final int[] lastDirections = new int[PLAYERS];
         final int[] tollsPaid = new int[PLAYERS];
         final int[] tollsGot = new int[PLAYERS];
-        final int[] settings = new int[SETTINGS];
+        final int[] settings = FIRST_SETTINGS.clone();
         int piecesLaid;
 
         Town() {
@@ -57,15 +58,13 @@ public final class TramTolls {
             Arrays.fill(stopPlayers, NONE);
             Arrays.fill(coins, FIRST_COINS);
             Arrays.fill(lastDirections, NONE);
-            for (int player = 0; player < PLAYERS; player++) {
-                int depot = at(DEPOTS, player);
-                put(trackMasks, depot, 1 << player);
-                put(owners, depot, player);
-                put(heads, player, depot);
+            for (int player = 0; player < DEPOTS.length; player++) {
+                int depot = DEPOTS[player];
+                if (depot >= 0 && depot < SQUARES) {
+                    trackMasks[depot] = 1 << player;
+                    owners[depot] = player;
+                }
             }
-            put(settings, TOLL, 2);
-            put(settings, TRACKS_PER_SQUARE, 2);
-            put(settings, COINS_PER_PIECE, 1);
         }
 
         void copyFrom(Town other) {

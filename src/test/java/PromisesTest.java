@@ -93,6 +93,8 @@ public final class PromisesTest {
         due("1 stops", x.count(1), 0);
         due("1 tracked squares", x.count(2), 4);
         due("1 saved", x.count(7), 0);
+        due("1 lines that join", x.count(6), 4);
+        due("1 no stop on the first square", x.square(0, 3), -1);
         due("1 toll", x.setting(0), 2);
         due("1 tracks", x.setting(1), 2);
         due("1 coins a piece", x.setting(2), 1);
@@ -136,6 +138,7 @@ public final class PromisesTest {
         due("3 same square", x.stop(44, 1), 1);
         due("3 on a depot", x.stop(0, 0), 2);
         refused("3 twice", x, STATE, () -> x.stop(44, 1));
+        refused("3 the first twice", x, STATE, () -> x.stop(44, 0));
         refused("3 house", x, STATE, () -> x.stop(13, 1));
         refused("3 low", x, INDEX, () -> x.stop(-1, 0));
         refused("3 high", x, INDEX, () -> x.stop(80, 0));
@@ -418,6 +421,8 @@ public final class PromisesTest {
         }
         TramTolls z = played("0:1e1s;0:3s");
         due("13 player again", z.player(0, 2), 21);
+        play(z, "0:3s3s3s3s", 4);
+        play(z, "1:1w;3:1n", 2);
     }
 
     // ---- promise 14
@@ -440,6 +445,21 @@ public final class PromisesTest {
         }
         refused("14 oldest dropped", x, STATE, x::undo);
         due("14 buffer stays", x.clearBuffer(), 1);
+        // The first saved state is not always that of a new object.
+        x.give(1, 5);
+        due("14 first again", x.undo(), 0);
+        due("14 state 3 again", hashWithoutCount7(x), digests[3]);
+        TramTolls z = played("0:1e3e3e;1:1w3w3w3w3w");
+        long ahead = z.digest();
+        z.lay(1, 3, W);
+        z.takeUp(0);
+        due("14 owner by a taken line", z.square(3, 1), 1);
+        z.undo();
+        due("14 owner", z.square(3, 1), 0);
+        z.undo();
+        due("14 tolls paid", z.player(1, 8), 0);
+        due("14 tolls got", z.player(0, 9), 0);
+        due("14 all of a toll", z.digest(), ahead);
         TramTolls y = played("0:1e3e");
         y.stop(2, 0);
         y.house(44, true);
@@ -611,6 +631,7 @@ public final class PromisesTest {
 
     private static void cheapests() {
         TramTolls x = new TramTolls();
+        due("22 depot of another", x.cheapest(1, 0), 2);
         due("22 own", x.cheapest(0, 0), 0);
         due("22 free", x.cheapest(0, 44), 0);
         due("22 a depot", x.cheapest(0, 9), 2);
@@ -685,6 +706,9 @@ public final class PromisesTest {
         TramTolls v = played("0:1s3s3s");
         v.stop(2, 0);
         due("23 none is nearer", v.best(0, 1), E);
+        TramTolls w = played("0:1e3e3e");
+        w.stop(20, 0);
+        due("23 nearest from the depot", w.best(0, 1), E);
         refused("23 low", x, INDEX, () -> x.best(-1, 0));
         refused("23 high", x, INDEX, () -> x.best(4, 0));
         refused("23 die low", x, ARGUMENT, () -> x.best(0, 0));
@@ -741,6 +765,11 @@ public final class PromisesTest {
         x.set(1, 4);
         play(x, "1:3w3w3w", 3);
         due("26 more shared", x.digest(), hash(x, "", true));
+        x.give(3, 99);
+        play(x, "2:1w3w3w3w3w5n3n3n", 8);
+        due("26 a dear square 44", x.cheapest(0, 44), 2);
+        due("26 ahead", x.ahead(), 3);
+        due("26 who is ahead", x.digest(), hash(x, "", true));
         write(x, "~!");
         due("26 any codes", x.digest(), hash(x, "~!", true));
     }
