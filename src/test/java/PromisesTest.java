@@ -430,9 +430,9 @@ public final class PromisesTest {
     private static void undos() {
         TramTolls x = new TramTolls();
         refused("14 none", x, STATE, x::undo);
-        long[] digests = new long[9];
+        String[] states = new String[9];
         for (int i = 0; i < 9; i++) {
-            digests[i] = hashWithoutCount7(x);
+            states[i] = counted(x);
             x.give(0, i + 1);
             due("14 saved", x.count(7), Math.min(i + 1, 6));
         }
@@ -440,7 +440,7 @@ public final class PromisesTest {
         for (int i = 8; i >= 3; i--) {
             due("14 left", x.undo(), i - 3);
             x.clearBuffer();
-            due("14 state " + i, hashWithoutCount7(x), digests[i]);
+            due("14 state " + i, counted(x), states[i]);
             x.append('0');
         }
         refused("14 oldest dropped", x, STATE, x::undo);
@@ -448,7 +448,7 @@ public final class PromisesTest {
         // The first saved state is not always that of a new object.
         x.give(1, 5);
         due("14 first again", x.undo(), 0);
-        due("14 state 3 again", hashWithoutCount7(x), digests[3]);
+        due("14 state 3 again", counted(x), states[3]);
         TramTolls z = played("0:1e3e3e;1:1w3w3w3w3w");
         long ahead = z.digest();
         z.lay(1, 3, W);
@@ -484,8 +484,19 @@ public final class PromisesTest {
         due("14 coins", y.player(0, 0), 20);
     }
 
-    private static long hashWithoutCount7(TramTolls x) {
-        return hash(x, "", false);
+    /** Looks at what is counted, the coins and the settings, but not at the saved states. */
+    private static String counted(TramTolls x) {
+        StringBuilder looks = new StringBuilder();
+        for (int i = 0; i < 7; i++) {
+            looks.append(x.count(i)).append(' ');
+        }
+        for (int i = 0; i < 4; i++) {
+            looks.append(x.player(i, 0)).append(' ').append(x.player(i, 2)).append(' ');
+        }
+        for (int i = 0; i < 3; i++) {
+            looks.append(x.setting(i)).append(' ');
+        }
+        return looks.toString();
     }
 
     // ---- promise 15
@@ -751,62 +762,39 @@ public final class PromisesTest {
     // ---- promise 26
 
     private static void digests() {
-        TramTolls x = new TramTolls();
-        due("26 new", x.digest(), hash(x, "", true));
         String text = "0:1e3e3e;1:1w3w3w3w3w3w";
-        write(x, text);
-        due("26 with a text", x.digest(), hash(x, text, true));
-        x.play();
-        due("26 shared", x.digest(), hash(x, "", true));
-        x.stop(33, 0);
-        x.stop(70, 1);
-        x.house(15, true);
-        due("26 stops", x.digest(), hash(x, "", true));
-        x.set(1, 4);
-        play(x, "1:3w3w3w", 3);
-        due("26 more shared", x.digest(), hash(x, "", true));
-        x.give(3, 99);
-        play(x, "2:1w3w3w3w3w5n3n3n", 8);
-        due("26 a dear square 44", x.cheapest(0, 44), 2);
-        due("26 ahead", x.ahead(), 3);
-        due("26 who is ahead", x.digest(), hash(x, "", true));
-        write(x, "~!");
-        due("26 any codes", x.digest(), hash(x, "~!", true));
+        digestOf("new", TramTolls::new, "");
+        digestOf("with a text", () -> written(text), text);
+        Checks.State crossed = () -> played(text);
+        digestOf("shared", crossed, "");
+        Checks.State stops = () -> {
+            TramTolls x = crossed.make();
+            x.stop(33, 0);
+            x.stop(70, 1);
+            x.house(15, true);
+            return x;
+        };
+        digestOf("stops", stops, "");
+        Checks.State moreShared = () -> {
+            TramTolls x = stops.make();
+            x.set(1, 4);
+            play(x, "1:3w3w3w", 3);
+            return x;
+        };
+        digestOf("more shared", moreShared, "");
+        Checks.State rich = () -> {
+            TramTolls x = moreShared.make();
+            x.give(3, 99);
+            play(x, "2:1w3w3w3w3w5n3n3n", 8);
+            return x;
+        };
+        due("26 a dear square 44", rich.make().cheapest(0, 44), 2);
+        due("26 ahead", rich.make().ahead(), 3);
+        digestOf("who is ahead", rich, "");
+        digestOf("any codes", () -> write(rich.make(), "~!"), "~!");
     }
 
-    private static long hash(TramTolls x, String text, boolean withSaved) {
-        long h = 2909;
-        for (int what = 0; what < 8; what++) {
-            h = 31 * h + (what < 7 || withSaved ? x.count(what) : 0);
-        }
-        for (int setting = 0; setting < 3; setting++) {
-            h = 31 * h + x.setting(setting);
-        }
-        for (int i = 0; i < 80 * 4; i++) {
-            h = 31 * h + x.square(i / 4, i % 4);
-        }
-        for (int i = 0; i < 12 * 3; i++) {
-            h = 31 * h + x.stopOf(i / 3, i % 3);
-        }
-        for (int p = 0; p < 4; p++) {
-            for (int what = 0; what < 10; what++) {
-                h = 31 * h + x.player(p, what);
-            }
-            h = 31 * h + x.away(p, 44);
-            h = 31 * h + x.cheapest(p, 44);
-            for (int i = 0; i < 6 * 4; i++) {
-                h = 31 * h + x.refusal(p, i / 4 + 1, i % 4);
-            }
-            for (int die = 1; die <= 6; die++) {
-                h = 31 * h + x.best(p, die);
-            }
-        }
-        h = 31 * h + x.ahead();
-        h = 31 * h + Double.doubleToLongBits(x.shared());
-        h = 31 * h + text.length();
-        for (char c : text.toCharArray()) {
-            h = 31 * h + c;
-        }
-        return h;
+    private static void digestOf(String what, Checks.State state, String text) {
+        due("26 " + what, state.make().digest(), Checks.hash(state, text));
     }
 }
