@@ -374,6 +374,8 @@ public final class LinesEdgesTest {
         due("stays the player's", y.square(9, 1), 1);
         due("a depot of another", y.square(70, 0), 1 | 1 << 3);
         due("stays the other's", y.square(70, 1), 3);
+        due("the first square is taken up too", y.square(0, 0), 1);
+        due("the last one too", y.square(79, 0), 1 | 1 << 2);
     }
 
     private static void nextOwners() {

@@ -46,6 +46,7 @@ public final class LooksEdgesTest {
         Checks.test("22: NONE if there is no such way", LooksEdgesTest::noCheapWay);
         Checks.test("22: of any length", LooksEdgesTest::cheapAndLong);
         Checks.test("22: the least sum of tolls", LooksEdgesTest::sumsOfTolls);
+        Checks.test("21 to 23: with what is there now", LooksEdgesTest::waysOfNow);
         Checks.test("23: IndexOutOfBounds if there is no such player", LooksEdgesTest::bestOfNoPlayer);
         Checks.test("23: IllegalArgument if die is out of range", LooksEdgesTest::bestOutOfRange);
         Checks.test("23: NONE if it could come to no such stop", LooksEdgesTest::bestWithoutStops);
@@ -55,6 +56,7 @@ public final class LooksEdgesTest {
         Checks.test("23: of several the least toll, of these the lowest", LooksEdgesTest::bestOfEqualOnes);
         Checks.test("23: least away, whatever the toll", LooksEdgesTest::bestIsNearest);
         Checks.test("23: the nearest of the stops", LooksEdgesTest::nearestOfStops);
+        Checks.test("23: away from any square of the line", LooksEdgesTest::bestFromDepot);
         Checks.test("24: most of the stops, the most coins, the lowest", LooksEdgesTest::ahead);
         Checks.test("24: stops that belong to the own line", LooksEdgesTest::aheadByOwnStops);
         Checks.test("25: none and all of the town", LooksEdgesTest::leastAndMostShared);
@@ -317,6 +319,8 @@ public final class LooksEdgesTest {
         due("squares with two", z.count(3), 80);
         due("pieces", z.count(4), 158);
         due("no tolls", z.count(5), 0);
+        due("tolls of the first player", Checks.poor().count(5), 18);
+        due("tolls of the second player", Checks.busy().count(5), 2);
     }
 
     private static void sharedSquares() {
@@ -499,6 +503,30 @@ public final class LooksEdgesTest {
         due("full", y.cheapest(3, 44), -1);
     }
 
+    /** No answer depends on what was asked ahead of it. */
+    private static void waysOfNow() {
+        TramTolls x = new TramTolls();
+        x.set(1, 1);
+        x.stop(44, 0);
+        for (int i = 0; i < 2; i++) {
+            due("full", x.away(1, 0), -1);
+            due("the own depot, cheap", x.cheapest(0, 0), 0);
+            due("full for the cheapest", x.cheapest(1, 0), -1);
+            due("the own depot", x.away(0, 0), 0);
+            due("from the own depot", x.cheapest(0, 44), 0);
+            due("best", x.best(0, 1), E);
+            due("from another depot", x.away(2, 44), 8);
+            due("none missing", x.best(2, 1), -1);
+        }
+        x.drop(0);
+        due("none any more", x.best(0, 1), -1);
+        x.house(44, true);
+        due("no way any more", x.away(2, 44), -1);
+        due("no cheap way any more", x.cheapest(0, 44), -1);
+        x.undo();
+        due("a way again", x.away(2, 44), 8);
+    }
+
     // ---- promise 23
 
     private static void bestOfNoPlayer() {
@@ -636,6 +664,16 @@ public final class LooksEdgesTest {
         x.house(43, true);
         due("round a house", x.away(0, 42), 3);
         due("south is the nearest again", x.best(0, 1), S);
+    }
+
+    private static void bestFromDepot() {
+        // From the depot it is as far as from the squares below and left of the head.
+        TramTolls x = Checks.played("0:1e3e5s");
+        x.stop(30, 0);
+        due("away from the line", x.away(0, 30), 3);
+        due("none is nearer, so the lowest", x.best(0, 1), E);
+        x.house(10, true);
+        due("the depot is not as near", x.best(0, 1), S);
     }
 
     // ---- promise 24

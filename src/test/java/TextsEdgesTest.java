@@ -462,5 +462,9 @@ public final class TextsEdgesTest {
             due("coins of 1 behind undo " + i, x.player(1, 0), others[i]);
         }
         due("none", Checks.outcome(x, TramTolls::undo), STATE);
+        x.give(2, 7);
+        due("the only saved state is this one", x.undo(), 0);
+        due("coins of 0 stay", x.player(0, 0), 60);
+        due("coins of 2 are back", x.player(2, 0), 20);
     }
 }
